@@ -421,11 +421,27 @@ public final class BrotliWords {
             return b >= 'a' && b <= 'z' ? b - 32 : b;
         }
 
-        /** Whether some CHANGE of a word may begin with a byte; rules most words out at once. */
+        /** Whether a word may begin with a byte, however it is changed; rules most words out at once. */
         boolean mayBegin(int length, int number, int b) {
             int place = placeOf(length, number);
             int first = letter(place);
-            return b == ' ' || b == first || b == raised(first) || b == letter(place + 1);
+            return b == first || b == raised(first) || b == letter(place + 1);
+        }
+
+        /** How many bytes a word makes without what is AROUND it, if they stand at a place; else 0. */
+        int coreAt(Row text, int from, int length, int number, int how) {
+            int core = coreSize(length, how);
+            int place = placeOf(length, number) + (how == 3 ? 1 : 0);
+            if (from < 0 || core > text.size - from || place < 0 || core > letters.length - place) {
+                return 0;
+            }
+            for (int i = 0; i < core; i++) {
+                int b = letters[place + i];
+                if (text.bytes[from + i] != (how == 2 || how == 1 && i == 0 ? raised(b) : b)) {
+                    return 0;
+                }
+            }
+            return core;
         }
     }
 
@@ -483,8 +499,9 @@ public final class BrotliWords {
                 value = 2 * value + (row.bytes[seen >> 3] >> (seen & 7) & 1);
                 seen++;
                 int many = code.many[n];
+                int at = place + value - first;
                 if (value - first < many) {
-                    return code.row[place + value - first];
+                    return at >= 0 && at < code.row.length ? code.row[at] : 0;
                 }
                 place += many;
                 first = 2 * (first + many);
@@ -563,6 +580,7 @@ public final class BrotliWords {
             for (int i = 0; i < signs; i++) {
                 many[lengths[i]]++;
             }
+            // A LENGTH of 0 is none: such signs stand nowhere in the row.
             many[0] = 0;
             next[0] = 0;
             for (int n = 1; n <= LONGEST; n++) {
@@ -1479,7 +1497,7 @@ public final class BrotliWords {
 
     /** Finds the best COPY and the best WORD at a place of the TAPE. */
     private static final class Finder {
-        private static final int LEAST = 4, MOST_COPY = 200, HEADS = 4096;
+        private static final int LEAST = 4, MOST_COPY = 200, HEADS = 1024;
 
         private final Words words;
         private final Row text;
@@ -1489,8 +1507,8 @@ public final class BrotliWords {
         private int copySize;
         private int copyBack;
         private int wordSize;
-        private int wordLength;
-        private int wordAway;
+        // Of WORDS that make as many bytes the least of this is the one: by LENGTH, number, CHANGE.
+        private int wordOrder;
 
         Finder(Words words, Row text) {
             this.words = words;
@@ -1534,31 +1552,54 @@ public final class BrotliWords {
         }
 
         void findWord(int p) {
+            int b = text.at(p);
             wordSize = 0;
-            for (int length = LEAST_WORD; length <= MOST_WORD; length++) {
-                for (int number = 0; number < words.manyOf(length); number++) {
-                    if (words.mayBegin(length, number, text.at(p))) {
-                        tryWord(p, length, number);
+            // A CHANGE adds two bytes at most, so the longest come first and spare looking at many others.
+            for (int length = MOST_WORD; length >= LEAST_WORD; length--) {
+                for (int number = 0; number < words.manyOf(length) && length + 2 >= wordSize; number++) {
+                    if (words.mayBegin(length, number, b)) {
+                        tryCores(p, p, length, number);
+                    }
+                    if (b == ' ' && words.mayBegin(length, number, text.at(p + 1))) {
+                        tryCores(p, p + 1, length, number);
                     }
                 }
             }
         }
 
-        private void tryWord(int p, int length, int number) {
-            for (int change = 0; change < CHANGES; change++) {
-                int size = words.sizeWith(length, change);
-                if (size >= LEAST && size > wordSize && size <= text.size - p) {
-                    int i = 0;
-                    for (int turn = 0; turn < size && i == turn; turn++) {
-                        i += text.at(p + turn) == words.byteWith(length, number, change, turn) ? 1 : 0;
+        private void tryCores(int p, int from, int length, int number) {
+            for (int how = 0; how < 6; how++) {
+                int core = words.coreAt(text, from, length, number, how);
+                int till = from + core;
+                if (core > 0 && from > p) {
+                    keepBetter(till - p, length, number, 12 + how);
+                } else if (core > 0) {
+                    keepBetter(core, length, number, how);
+                    if (till < text.size && text.at(till) == ' ') {
+                        keepBetter(core + 1, length, number, 6 + how);
                     }
-                    if (i == size) {
-                        wordSize = size;
-                        wordLength = length;
-                        wordAway = p + 1 + (change << words.bitsOf(length)) + number;
+                    if (till + 1 < text.size && text.at(till) == ',' && text.at(till + 1) == ' ') {
+                        keepBetter(core + 2, length, number, 18 + how);
                     }
                 }
             }
+        }
+
+        private void keepBetter(int size, int length, int number, int change) {
+            int order = (length * WORDS_EACH + number) * CHANGES + change;
+            if (size >= LEAST && (size > wordSize || size == wordSize && order < wordOrder)) {
+                wordSize = size;
+                wordOrder = order;
+            }
+        }
+
+        int wordLength() {
+            return wordOrder / CHANGES / WORDS_EACH;
+        }
+
+        int wordAway(int p) {
+            int number = wordOrder / CHANGES % WORDS_EACH;
+            return p + 1 + (wordOrder % CHANGES << words.bitsOf(wordLength())) + number;
         }
     }
 
@@ -1686,8 +1727,8 @@ public final class BrotliWords {
 
         private void chooseWord(int p) {
             steps[p] = finder.wordSize;
-            copies[p] = finder.wordLength;
-            aways[p] = finder.wordAway;
+            copies[p] = finder.wordLength();
+            aways[p] = finder.wordAway(p);
             areWords[p] = true;
         }
 

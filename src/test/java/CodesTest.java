@@ -1,0 +1,321 @@
+/** Promises 12, 18 and 19: KINDS, contexts, MAPS and CODES of a CODED PART. */
+final class CodesTest {
+    public static void main(String[] args) {
+        literalContexts();
+        distanceContexts();
+        literalKinds();
+        commandAndDistanceKinds();
+        countsOfKinds();
+        maps();
+        shortCodes();
+        longCodes();
+        latestPartWithCodes();
+        Bench.finish("CodesTest");
+    }
+
+    /** A PART of one literal by two TREES of one sign each: which bit of the context is 1 tells the TREE. */
+    private static int contextOf(int mode, int q, int p) {
+        int context = 0;
+        for (int bit = 0; bit < 6; bit++) {
+            Bench b = new Bench();
+            Bench.Stream s = b.stream().raw("" + (char) q + (char) p).coded(true, 1).row("000 00 0000").put(mode, 2)
+                .row("1 000").row("0").told(1, 0, 1);
+            for (int i = 0; i < 64; i++) {
+                s.put(i >> bit & 1, 1);
+            }
+            s.row("0 0").literals('A').literals('B').commands(136).distances(0);
+            Bench.due("context", b.open(s), 3);
+            context |= b.x.out(2) == 'B' ? 1 << bit : 0;
+        }
+        return context;
+    }
+
+    private static void literalContexts() {
+        for (int v = 0; v < 256; v++) {
+            Bench.due("mode 0, " + v, contextOf(0, 77, v), v % 64);
+            Bench.due("mode 1, " + v, contextOf(1, 77, v), v / 4);
+            Bench.due("mode 2, first of " + v, contextOf(2, 0, v), first(v));
+            Bench.due("mode 2, second of " + v, contextOf(2, v, 0), second(v));
+            Bench.due("mode 2, both of " + v, contextOf(2, v, 'a'), 56 | second(v));
+            Bench.due("mode 3, first of " + v, contextOf(3, 0, v), 8 * size(v));
+            Bench.due("mode 3, second of " + v, contextOf(3, v, 255), 56 + size(v));
+        }
+        for (int mode = 0; mode < 4; mode++) {
+            Bench b = new Bench();
+            Bench.Stream s = b.stream().coded(true, 1).row("000 00 0000").put(mode, 2).row("1 000").row("0").told(1, 0, 1)
+                .put(1, 62).put(0, 2).row("0 0").literals('A').literals('B').commands(136).distances(0);
+            Bench.due("nothing before", b.open(s), 1);
+            Bench.due("is context 0", b.made(), "B");
+        }
+    }
+
+    private static int first(int v) {
+        String[] groups = {"\t\n\r", " ", "", "\"'", "%", "([{<", ")]}>", ",:;", ".", "=", "0123456789",
+            "AEIOU", "BCDFGHJKLMNPQRSTVWXYZ", "aeiou", "bcdfghjklmnpqrstvwxyz"};
+        for (int i = 0; i < groups.length; i++) {
+            if (groups[i].indexOf((char) v) >= 0) {
+                return 4 + 4 * i;
+            }
+        }
+        return v >= 192 ? 2 + v % 2 : v >= 128 ? v % 2 : v < 32 || v == 127 ? 0 : 12;
+    }
+
+    private static int second(int v) {
+        char c = (char) v;
+        if (v < 32 || v > 126 && v < 192) {
+            return 0;
+        }
+        return Character.isLowerCase(c) && v < 128 ? 3 : v > 191 || Character.isLetterOrDigit(c) ? 2 : 1;
+    }
+
+    private static int size(int v) {
+        int[] tops = {0, 15, 63, 127, 191, 239, 254, 255};
+        int size = 0;
+        while (v > tops[size]) {
+            size++;
+        }
+        return size;
+    }
+
+    private static void distanceContexts() {
+        int[] due = {1, 3, 5, 9, 9, 9, 9};
+        for (int i = 0; i < 7; i++) {
+            Bench b = new Bench();
+            Bench.Stream s = b.stream().raw("abcdefghijklmnopqrst").coded(true, 2 + i).row("000 00 0000 00 0")
+                .row("1 100 1").row("0").told(2, 0, 1, 2, 3).row("0  00 01 10 11  0")
+                .literals('x').commands(128 + i).distances(16).distances(17).distances(18).distances(19)
+                .put(0, i == 0 || i == 1 ? 1 : 2);
+            Bench.due("copy " + (2 + i), b.open(s), 22 + i);
+            Bench.due("copy " + (2 + i) + ", ring(0)", b.x.ring(0), due[i]);
+            Bench.due("trees of distances", b.x.part(1, 6), 4);
+            for (int j = 0; j < 4; j++) {
+                Bench.due("map(1, " + j + ")", b.x.map(1, j), j);
+            }
+            Bench.due("map(1, 4)", b.x.map(1, 4), BrotliWords.BAD);
+        }
+    }
+
+    private static void literalKinds() {
+        Bench b = new Bench();
+        Bench.Stream s = b.stream().coded(true, 10);
+        // Three KINDS; the signs 0, 1, 3, 4 of what comes next in two bits each; COUNTS 1 and two bits.
+        s.row("1 100 0").told(3, 0, 1, 3, 4).row("0").told(5, 0).put(1, 2);
+        s.row("0 0 00 0000 000000");
+        // Three TREES, one for each KIND: by runs, and moved to the front.
+        s.row("1 100 0").row("1 1010").told(4, 5, 6, 7, 8).row("0");
+        s.row("01").put(0, 6).row("10  00").put(31, 5).row("11  00").put(31, 5).row("1");
+        s.row("0").literals('A').literals('B').literals('C').commands(256).distances(0).put(0, 2);
+        s.row("01 00  00 00  00 00  11 00  01 00  10 00  00 00  00 10");
+        Bench.due("open", b.open(s), 10);
+        Bench.due("out", b.made(), "AABABCABAB");
+        Bench.due("part", b.part(0), "3 10 3 1 1 3 1 0 0 1 0 0");
+        for (int i = 0; i < 192; i++) {
+            Bench.due("map(0, " + i + ")", b.x.map(0, i), i / 64);
+        }
+        Bench.due("map(0, 192)", b.x.map(0, 192), BrotliWords.BAD);
+        Bench.due("map(0, -1)", b.x.map(0, -1), BrotliWords.BAD);
+        Bench.due("map(2, 0)", b.x.map(2, 0), BrotliWords.BAD);
+        Bench.due("map(-1, 0)", b.x.map(-1, 0), BrotliWords.BAD);
+        Bench.due("map(1, 3)", b.x.map(1, 3), 0);
+        Bench.due("length(0, 3, 0)", b.x.length(0, 3, 0), BrotliWords.BAD);
+        theKindBeforeAtFirst();
+    }
+
+    private static void theKindBeforeAtFirst() {
+        Bench b = new Bench();
+        Bench.Stream s = b.stream().coded(true, 3).row("1 000").told(2, 0, 1).told(5, 0).put(0, 2);
+        s.row("0 0 00 0000 0000  1 000  0").told(1, 0, 1).put(0, 64).put(-1L, 63).row("1").row("0");
+        s.row("0").literals('A').literals('B').commands(152).distances(0).row("0 00  1 00");
+        Bench.due("the KIND before at first", b.open(s), 3);
+        Bench.due("is 1, and behind the last one 0 comes", b.made(), "ABA");
+    }
+
+    private static void commandAndDistanceKinds() {
+        Bench b = new Bench();
+        Bench.Stream s = b.stream().raw("abcdefghij").coded(true, 12).row("0");
+        // Two KINDS each, at first for one command and one distance; a TREE of distances for each KIND.
+        s.row("1 000").told(2, 1, 2).told(5, 0).put(0, 2);
+        s.row("1 000").told(2, 1, 2).told(5, 0).put(0, 2);
+        s.row("00 0000 00 0").row("1 000  0").told(1, 0, 1).row("0000 1111 0");
+        s.literals('x').commands(128).commands(137).distances(17).distances(18);
+        s.row("0");
+        s.row("0 10").row("0 00  11");
+        s.row("0 00  0");
+        s.row("1 00").row("1 00  1");
+        Bench.due("open", b.open(s), 22);
+        Bench.due("out", b.made(), "abcdefghijhixfghxghxxg");
+        Bench.due("ring", b.ring(), "4 3 8 3");
+        Bench.due("part", b.part(1), "3 12 1 2 2 1 2 0 0 4 4 0");
+        Bench.due("length(1, 1, 0)", b.x.length(1, 1, 0), 0);
+        Bench.due("length(1, 2, 0)", b.x.length(1, 2, 0), BrotliWords.BAD);
+        for (int i = 0; i < 8; i++) {
+            Bench.due("map(1, " + i + ")", b.x.map(1, i), i / 4);
+        }
+    }
+
+    /** Each sign of a COUNT by its least and its greatest number: when it is over, a KIND is told. */
+    private static void countsOfKinds() {
+        int count = 1;
+        for (int sign = 0; sign < 25; sign++) {
+            int bits = sign < 16 ? 2 + sign / 4 : sign < 18 ? 6 : sign - 11;
+            for (int e = 0; e < 1 << bits; e += (1 << bits) - 1) {
+                int all = count + e;
+                if (all < 2000) {
+                    Bench b = new Bench();
+                    Bench.Stream s = b.stream().coded(true, all + 1).row("1 000").told(2, 1).told(5, sign).put(e, bits);
+                    s.row("0 0 00 0000 0000  1 000  0").told(1, 0, 1).put(0, 64).put(-1L, 63).row("1").row("0");
+                    s.row("0").literals('A').literals('B').commands(insertSign(all + 1)).distances(0);
+                    s.put(all + 1 - insertBase(all + 1), insertBits(all + 1)).put(0, bits);
+                    Bench.due("count " + all, b.open(s), all + 1);
+                    Bench.due("count " + all + ", its last", b.x.out(all - 1), 'A');
+                    Bench.due("count " + all + ", the next", b.x.out(all), 'B');
+                }
+            }
+            count += 1 << bits;
+        }
+    }
+
+    private static final int[] INSERTS = {
+        0, 1, 2, 3, 4, 5, 6, 8, 10, 14, 18, 26, 34, 50, 66, 98, 130, 194, 322, 578, 1090, 2114, 6210, 22594};
+
+    private static int insertCode(int insert) {
+        int code = 0;
+        while (INSERTS[code + 1] <= insert) {
+            code++;
+        }
+        return code;
+    }
+
+    private static int insertBase(int insert) {
+        return INSERTS[insertCode(insert)];
+    }
+
+    private static int insertBits(int insert) {
+        int code = insertCode(insert);
+        return 31 - Integer.numberOfLeadingZeros(INSERTS[code + 1] - INSERTS[code]);
+    }
+
+    private static int insertSign(int insert) {
+        int code = insertCode(insert);
+        return (code < 8 ? 128 : code < 16 ? 256 : 448) + code % 8 * 8;
+    }
+
+    private static void maps() {
+        Bench b = new Bench();
+        // Two KINDS of distances, three TREES: the numbers 2 0 1 1, a run of three 0s, 2; not moved.
+        Bench.Stream s = b.stream().coded(true, 1).row("0 0  1 000").told(2, 0, 1).told(5, 0).put(0, 2);
+        s.row("00 0000 00 0  1 100 0").row("1 0000").told(2, 0, 1, 2, 3).row("0").row("11 00 10 10").row("01 1").row("11");
+        Bench.due("not moved", b.open(close(s.row("0"))), 1);
+        Bench.due("its map", mapOf(b), "2 0 1 1 0 0 0 2");
+        s = b.stream().coded(true, 1).row("0 0  1 000").told(2, 0, 1).told(5, 0).put(0, 2);
+        s.row("00 0000 00 0  1 100 0").row("1 0000").told(2, 0, 1, 2, 3).row("0").row("11 00 10 10").row("01 1").row("11");
+        Bench.due("moved to the front", b.open(close(s.row("1"))), 1);
+        Bench.due("its map", mapOf(b), "2 2 0 2 2 2 2 1");
+        Bench.due("trees", b.x.part(0, 5) + " " + b.x.part(0, 6), "1 3");
+    }
+
+    private static Bench.Stream close(Bench.Stream s) {
+        return s.literals('a').commands(136).distances(0).distances(1).distances(2);
+    }
+
+    private static String mapOf(Bench b) {
+        StringBuilder map = new StringBuilder();
+        for (int i = 0; b.x.map(1, i) != BrotliWords.BAD; i++) {
+            map.append(i == 0 ? "" : " ").append(b.x.map(1, i));
+        }
+        return map.toString();
+    }
+
+    private static void shortCodes() {
+        Bench b = new Bench();
+        Bench.due("two", b.open(b.stream().coded(true, 4).plain().told(8, 'b', 'a').commands(160).distances(5)
+            .row("0 1 1 0")), 4);
+        Bench.due("two, out", b.made(), "abba");
+        Bench.due("two, lengths", lengths(b, "abcd"), "1 1 0 0");
+        Bench.due("a lone one", b.x.length(1, 0, 160) + " " + b.x.length(2, 0, 5), "0 0");
+        Bench.due("three", b.open(b.stream().coded(true, 4).plain().told(8, 'c', 'b', 'a').commands(160).distances(0)
+            .row("0 10 11 0")), 4);
+        Bench.due("three, out", b.made(), "cabc");
+        Bench.due("three, lengths", lengths(b, "abcd"), "2 2 1 0");
+        Bench.due("four", b.open(b.stream().coded(true, 4).plain().told(8, 'd', 'c', 'b', 'a').row("0")
+            .commands(160).distances(0).row("00 01 10 11")), 4);
+        Bench.due("four, out", b.made(), "abcd");
+        Bench.due("four, lengths", lengths(b, "abcd"), "2 2 2 2");
+        Bench.due("four with t", b.open(b.stream().coded(true, 4).plain().told(8, 'd', 'c', 'b', 'a').row("1")
+            .commands(160).distances(0).row("0 10 110 111")), 4);
+        Bench.due("four with t, out", b.made(), "dcab");
+        Bench.due("four with t, lengths", lengths(b, "abcd"), "3 3 2 1");
+        Bench.due("length(0, 0, 256)", b.x.length(0, 0, 256), BrotliWords.BAD);
+        Bench.due("length(0, 0, -1)", b.x.length(0, 0, -1), BrotliWords.BAD);
+        Bench.due("length(0, 1, 0)", b.x.length(0, 1, 0), BrotliWords.BAD);
+        Bench.due("length(0, -1, 0)", b.x.length(0, -1, 0), BrotliWords.BAD);
+        Bench.due("length(3, 0, 0)", b.x.length(3, 0, 0), BrotliWords.BAD);
+        Bench.due("length(-1, 0, 0)", b.x.length(-1, 0, 0), BrotliWords.BAD);
+        Bench.due("length(1, 0, 703)", b.x.length(1, 0, 703), 0);
+        Bench.due("length(1, 0, 704)", b.x.length(1, 0, 704), BrotliWords.BAD);
+        Bench.due("length(2, 0, 63)", b.x.length(2, 0, 63), 0);
+        Bench.due("length(2, 0, 64)", b.x.length(2, 0, 64), BrotliWords.BAD);
+    }
+
+    private static String lengths(Bench b, String signs) {
+        StringBuilder lengths = new StringBuilder();
+        for (int i = 0; i < signs.length(); i++) {
+            lengths.append(i == 0 ? "" : " ").append(b.x.length(0, 0, signs.charAt(i)));
+        }
+        return lengths.toString();
+    }
+
+    private static void longCodes() {
+        Bench b = new Bench();
+        // Marks 0, 1, 2, 17 of two bits each; 97 zeros by 17 17 0 17 17, then 1, 2, 2.
+        Bench.Stream s = b.stream().coded(true, 4).plain().row("00 110 110 00 00 110 00 110")
+            .row("11 111  11 111  00  11 100  11 110  01 10 10").commands(160).distances(0).row("11 10 0 0");
+        Bench.due("zeros by 17", b.open(s), 4);
+        Bench.due("zeros by 17, out", b.made(), "cbaa");
+        Bench.due("zeros by 17, lengths", lengths(b, "`abcd"), "0 1 2 2 0");
+        // Marks 8 and 16 of one bit each; 16 at first means 8.
+        String chain = "1 11  1 11  1 11  0";
+        s = b.stream().coded(true, 4).plain().row("00 00 00 00 00 00 00 00 00 1110 00 1110")
+            .row(chain).row(chain).row("1 11  1 01  1 11").commands(160).distances(0)
+            .row("01100001 00000000 11111111 01100010");
+        Bench.due("256 of 8 by 16", b.open(s), 4);
+        Bench.due("256 of 8 by 16, out", b.made(), "a\u0000\u00ffb");
+        for (int i = 0; i < 256; i++) {
+            Bench.due("length(0, 0, " + i + ")", b.x.length(0, 0, i), 8);
+        }
+        // A lone mark has 0 bits: all signs have LENGTH 3 till the sum is reached; without the first two marks.
+        s = b.stream().coded(true, 4).plain().row("01 1111 00 00 00 00 00 00 00 00 00 00 00 00 00 00 00")
+            .commands(160).distances(0).row("000 111 010 001");
+        Bench.due("a lone mark", b.open(s), 4);
+        Bench.due("a lone mark, out", b.made(), "\u0000\u0007\u0002\u0001");
+        Bench.due("a lone mark, lengths", b.x.length(0, 0, 7) + " " + b.x.length(0, 0, 8), "3 0");
+        // LENGTHS 1 .. 14 and twice 15, each by its mark; marks of four bits but 15, of five.
+        s = b.stream().coded(true, 4).plain().row("00 10 10 10 10 00 10 00 10 00 10 10 10 10 10 10 10 10 1111 ");
+        Bench.due("marks of a sum below 32", b.open(s.put(0, 64)), -23);
+        s = b.stream().coded(true, 2).plain().row("00 10 10 10 10 00 10 10 10 00 10 10 10 10 10 10 10 10 10");
+        for (int n = 1; n <= 15; n++) {
+            s.row(Integer.toBinaryString(16 + n - 1).substring(1));
+        }
+        s.row("1110").commands(144).distances(0).row("111111111111111 10");
+        Bench.due("LENGTHS up to 15", b.open(s), 2);
+        Bench.due("LENGTHS up to 15, out", b.made(), "\u000f\u0001");
+    }
+
+    private static void latestPartWithCodes() {
+        Bench b = new Bench();
+        Bench.due("the second part's CODES are broken", b.open(b.stream()
+            .coded(false, 1).plain().told(8, 'a', 'b').commands(136).distances(0).row("0")
+            .coded(true, 1).plain().told(8, 'c', 'd').commands(136).row("10").put(1, 2).put(7, 6).put(7, 6).put(0, 32)), -22);
+        Bench.due("the first one's are told", lengths(b, "abcd"), "1 1 0 0");
+        Bench.due("map", b.x.map(0, 63), 0);
+        Bench.due("the second part's commands are broken", b.open(b.stream()
+            .coded(false, 1).plain().told(8, 'a', 'b').commands(136).distances(0).row("0")
+            .coded(true, 1).plain().told(8, 'c', 'd').commands(144).distances(0).put(0, 32)), -18);
+        Bench.due("the second one's are told", lengths(b, "abcd"), "0 0 1 1");
+        Bench.due("a raw part keeps them", b.open(b.stream()
+            .coded(false, 1).plain().told(8, 'a', 'b').commands(136).distances(0).row("0").raw("x").empty()), 2);
+        Bench.due("they are told", lengths(b, "abcd"), "1 1 0 0");
+        Bench.due("another open()", b.open(b.stream().raw("x").empty()), 1);
+        Bench.due("has none", b.x.length(0, 0, 'a') + " " + b.x.map(0, 0), "-1 -1");
+    }
+}
