@@ -173,6 +173,10 @@ final class CodesTest {
             }
             count += 1 << bits;
         }
+        Bench b = new Bench();
+        Bench.due("a COUNT by 24 bits", b.open(b.stream().coded(true, 3).row("1 000").told(2, 1).told(5, 25).put(0, 24)
+            .row("0 0 10 1000 0000 0 0").literals('A').commands(152).told(7, 0)), 3);
+        Bench.due("a COUNT by 24 bits, part", b.part(0), "3 3 2 1 1 1 1 1 2 1 0 0");
     }
 
     private static final int[] INSERTS = {
@@ -289,6 +293,11 @@ final class CodesTest {
         Bench.due("a lone mark", b.open(s), 4);
         Bench.due("a lone mark, out", b.made(), "\u0000\u0007\u0002\u0001");
         Bench.due("a lone mark, lengths", b.x.length(0, 0, 7) + " " + b.x.length(0, 0, 8), "3 0");
+        // Marks 0, 2 and 16: behind a 0 the latest that was not 0 is told again.
+        s = b.stream().coded(true, 4).plain().row("00 00 1110 00 00 110 00 00 00 110")
+            .row("0 10 11 00").commands(160).distances(0).row("00 01 10 11");
+        Bench.due("16 behind a 0", b.open(s), 4);
+        Bench.due("16 behind a 0, out", b.made(), "\u0000\u0002\u0003\u0004");
         // LENGTHS 1 .. 14 and twice 15, each by its mark; marks of four bits but 15, of five.
         s = b.stream().coded(true, 4).plain().row("00 10 10 10 10 00 10 00 10 00 10 10 10 10 10 10 10 10 1111 ");
         Bench.due("marks of a sum below 32", b.open(s.put(0, 64)), -23);

@@ -112,6 +112,14 @@ final class RulesTest {
             .literals('a').commands(ONE_COPY_4).distances(16).row("0"), 8);
         Bench.due("copy, part", b.part(0), "3 3 1 1 1 1 1 0 0 1 0 0");
         Bench.due("copy, ring", b.ring(), "4 11 15 16");
+        int[] bases = {6210, 22594};
+        int[] bits = {14, 24};
+        for (int i = 0; i < 2; i++) {
+            b.broken("insert " + bases[i], b.stream().coded(true, 3000).plain().literals('a')
+                .commands(448 + 48 + 8 * i).distances(0).put(0, bits[i]), 8);
+        }
+        b.broken("copy by 24 bits", b.stream().coded(true, 3000).plain().literals('a')
+            .commands(384 + 8 + 7).distances(16).put(3000 - 2118, 24).row("0"), 8);
         Bench w = new Bench().words("abcd");
         w.broken("word", w.stream().coded(true, 5).plain()
             .literals('a').commands(NONE_COPY_4).distances(20).put(6, 3), 8);
