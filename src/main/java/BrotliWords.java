@@ -245,6 +245,14 @@ public final class BrotliWords {
         return code;
     }
 
+    /** A distance comes to THE RING, which has the last one first. */
+    private static void remember(int[] lately, int distance) {
+        for (int i = lately.length - 1; i > 0; i--) {
+            lately[i] = lately[i - 1];
+        }
+        lately[0] = distance;
+    }
+
     /** A row of bytes with a bound (the TAPE, OUT), which takes bits or bytes at its end. */
     private static final class Row {
         private final int[] bytes;
@@ -1185,10 +1193,7 @@ public final class BrotliWords {
                 made.addByte(made.at(made.size - distance));
             }
             if (isNew) {
-                for (int i = 3; i > 0; i--) {
-                    lately[i] = lately[i - 1];
-                }
-                lately[0] = distance;
+                remember(lately, distance);
             }
             noteOneMore(FACT_COPIES);
         }
@@ -1743,7 +1748,7 @@ public final class BrotliWords {
                     int sign = distanceSign(aways[p]);
                     addCommand(insert, copies[p], aways[p], sign);
                     if (!areWords[p] && sign != 0) {
-                        remember(aways[p]);
+                        remember(lately, aways[p]);
                     }
                     insert = 0;
                 }
@@ -1766,13 +1771,6 @@ public final class BrotliWords {
 
         private static int distanceBits(int distance) {
             return Math.max(1, widthOf(distance + 3) - 2);
-        }
-
-        private void remember(int distance) {
-            for (int i = 3; i > 0; i--) {
-                lately[i] = lately[i - 1];
-            }
-            lately[0] = distance;
         }
 
         /** Keeps a command; where its sign tells the distance, too, none is kept for writing. */

@@ -103,28 +103,28 @@ final class PackTest {
             .row("0").row("000 001 010 011 100 101 110 111"));
     }
 
-    /** Literals as often as 1, 1, 2, 3, 5 .. have LENGTHS 1 .. 12: so many marks need more than five bits at first. */
+    /**
+     * Marks as often as: 0 and 17 24 times, 3, 6, 7 4, 4 twice, 2 and 5 once. So 2 and 5 would have LENGTH 6;
+     * halved, and 1 (13, 3, 2, 1), these have 5, and 0 and 17 are joined before what was joined from others.
+     */
     private static void longCodeOfMarks() {
+        int[] signs = {1, 14, 48, 60, 107, 117, 130, 136, 194, 199, 221, 228, 230, 241, 249, 253};
+        int[] often = {23, 10, 6, 1, 4, 1, 1, 1, 3, 13, 17, 30, 2, 2, 8, 1};
         StringBuilder text = new StringBuilder();
-        int a = 1;
-        int b = 1;
-        for (int sign = 0; sign < 13; sign++) {
-            for (int i = 0; i < a; i++) {
-                text.append((char) (17 * sign));
-            }
-            b += a;
-            a = b - a;
+        for (int i = 0; i < signs.length; i++) {
+            text.append(("" + (char) signs[i]).repeat(often[i]));
         }
-        Bench bench = new Bench();
         String mixed = mixed(text.toString());
-        bench.text(mixed);
-        int size = bench.x.pack(1);
-        bench.x.pass();
-        Bench.due("all is there again", bench.x.open(), mixed.length());
-        Bench.due("packed", size < mixed.length() ? 1 : 0, 1);
-        for (int i = 0; i < mixed.length(); i += 3) {
-            Bench.due("byte " + i, bench.x.out(i), mixed.charAt(i));
-        }
+        Bench b = new Bench().text(mixed);
+        b.x.pack(1);
+        Bench.due("no COPY", b.command(0), "123 0 0 " + (256 + 56));
+        Bench.Stream due = b.stream().coded(true, 123).plain().row("00  00 1111 01 10 110 1111 110 01 00 01")
+            .row("00 100  01 111 00 00 100  01 111 00 01 111 00 01 111 00 1110 01 111 00");
+        int whole = due.size() / 8;
+        Bench.due("the marks", b.made().substring(0, whole), due.bytes().substring(0, whole));
+        b.x.pass();
+        Bench.due("open", b.x.open(), 123);
+        Bench.due("all is there again", b.made(), mixed);
     }
 
     /** Shuffles so that hardly any four bytes come twice. */
@@ -232,6 +232,15 @@ final class PackTest {
         // Four literals and a COPY would cost 60 here, two COPIES 48.
         chooses("two COPIES", new Bench().text("abcdeefghijklabcdefghijkl"), 2,
             "13 5 13 " + (256 + 3), "0 7 12 " + (128 + 5));
+        // A literal and a WORD of eight cost 33, a WORD of four and five literals 69.
+        chooses("a literal ahead of a WORD", new Bench().words("abcd", "bcdefghi").text("!!abcdefghi"), 2,
+            "3 8 4 " + (24 + 6));
+        chooses("a WORD before a literal of like cost", new Bench().words("abcd", "bcde").text("abcde"), 2,
+            "0 4 1 " + (128 + 2), "1 0 0 136");
+        chooses("a COPY before a literal of like cost", new Bench().text("abcd1bcde2abcde"), 2,
+            "10 4 10 " + (256 + 2), "1 0 0 136");
+        chooses("a WORD of four costs less than its literals", new Bench().words("abcd").text("12abcd345678"), 2,
+            "2 4 3 " + (128 + 16 + 2), "6 0 0 176");
         Bench b = new Bench().words("efgh");
         chooses("a COPY before a WORD of like cost", b.text("efghefgh"), 2, "0 4 1 130", "0 4 4 2");
     }

@@ -123,6 +123,8 @@ final class RulesTest {
         Bench w = new Bench().words("abcd");
         w.broken("word", w.stream().coded(true, 5).plain()
             .literals('a').commands(NONE_COPY_4).distances(20).put(6, 3), 8);
+        w.broken("a word behind bytes", w.stream().raw("xyz").coded(true, 3).plain()
+            .literals('a').commands(NONE_COPY_4).distances(0), 8);
         Bench.due("a word that just fits", w.open(w.stream().coded(true, 6).plain()
             .literals('a').commands(NONE_COPY_4).distances(20).put(6, 3)), 6);
         Bench.due("its bytes", w.made(), "abcd, ");
