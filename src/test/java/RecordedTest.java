@@ -5,7 +5,8 @@ import java.util.List;
 
 /**
  * All promises: runs of calls by chance (texts that are packed, spoiled and opened; streams with KINDS, TREES,
- * MAPS and broken RULES), with the answers of another program that was written from the document alone.
+ * MAPS and broken RULES), with the answers of a second program. Both were written by the same reader of the
+ * document: this finds slips, not what was misread.
  */
 final class RecordedTest {
     public static void main(String[] args) throws IOException {
