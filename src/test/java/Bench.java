@@ -56,6 +56,12 @@ final class Bench {
         return new Stream().put(x.digest(), 16).put(0, 1);
     }
 
+    /** A stream behind a PART of eight bytes, moved by 0 .. 7 bits: any bit behind it can be a byte's last. */
+    Stream lead(int by) {
+        return stream().coded(false, 8).plain().literals('a', 'b', 'c').commands(184).distances(0).row("0")
+            .row("0".repeat(8 - by)).row("10".repeat(by));
+    }
+
     /** Puts a stream on the TAPE and opens it. */
     int open(Stream stream) {
         x.wipe();
@@ -130,6 +136,12 @@ final class Bench {
                 bytes.append((char) number(at, Math.min(8, size() - at)));
             }
             return bytes.toString();
+        }
+
+        Stream cut(int n) {
+            Stream cut = new Stream();
+            cut.bits.append(bits, 0, n);
+            return cut;
         }
 
         Stream put(long v, int n) {

@@ -6,7 +6,15 @@ final class CodesTest {
         literalKinds();
         commandAndDistanceKinds();
         countsOfKinds();
+        countsByTheirBits();
+        kindsAnew();
+        twelveOfAll();
+        eachKindByEachSign();
+        modesOfKinds();
         maps();
+        twelveTreesMoved();
+        mapsAnew();
+        askedBeyond();
         shortCodes();
         longCodes();
         latestPartWithCodes();
@@ -179,6 +187,139 @@ final class CodesTest {
         Bench.due("a COUNT by 24 bits, part", b.part(0), "3 3 2 1 1 1 1 1 2 1 0 0");
     }
 
+    // ".. and as many bits more as: .. 11, 12, 13, 24": greater COUNTS than OUT can have are told to the bit.
+    private static void countsByTheirBits() {
+        int[] bits = {11, 12, 13, 24};
+        for (int sign = 22; sign < 26; sign++) {
+            for (int e = -1; e < 1; e++) {
+                Bench b = new Bench();
+                b.broken("COUNT by sign " + sign, b.lead(3).coded(false, 2990).row("1 000").told(2, 3).told(5, sign)
+                    .put(e, bits[sign - 22]).row("0 0 00 0000 0000 0 0").literals('A').commands(488).distances(0)
+                    .put(2990 - 2114, 12).put(0, sign == 22 && e == 0 ? 11 : 0).row("1 0 11"), 4);
+                Bench.due("COUNT by sign " + sign + ", count(3)", b.x.count(3), 2);
+            }
+        }
+    }
+
+    // "KINDS, COUNTS do not [stay from PART to PART]": the next PART begins with KIND 0, and 1 before it.
+    private static void kindsAnew() {
+        Bench b = new Bench();
+        Bench.Stream s = b.stream();
+        for (int part = 0; part < 3; part++) {
+            // One literal of KIND 0; by t = 0 three of that before, KIND 1, then two of KIND 0, and so on.
+            s.coded(part == 2, 5 + part).row("1 000").told(2, 0).told(5, 0).put(0, 2);
+            s.row("0 0 00 0000 0000  1 000  0").told(1, 0, 1).put(0, 64).put(-1L, 63).row("1").row("0");
+            s.row("0").literals('A').literals('B').commands(128 + 40 + 8 * Math.min(1, part)).distances(0);
+            s.row(part == 0 ? "" : part == 1 ? "0" : "1").put(2, 2);
+            s.put(1, 2).row(part == 2 ? "01" : "");
+        }
+        Bench.due("three PARTS", b.open(s), 18);
+        Bench.due("out", b.made(), "ABBBA" + "ABBBAA" + "ABBBAAB");
+    }
+
+    /** A CODE of twelve signs: the first four have three bits, the others four. */
+    private static Bench.Stream twelve(Bench.Stream s) {
+        return s.row("00  00 00 1110 1110  0000 11111111");
+    }
+
+    private static Bench.Stream ofTwelve(Bench.Stream s, int sign) {
+        return s.row(Integer.toBinaryString(sign < 4 ? 8 + sign : 16 + 8 + sign - 4).substring(1));
+    }
+
+    // "12 at most": KINDS and TREES of all SORTS; MAPS of 768 and 48; 520 signs of distances.
+    private static void twelveOfAll() {
+        Bench b = new Bench();
+        Bench.Stream s = b.stream().coded(true, 7);
+        for (int sort = 0; sort < 3; sort++) {
+            s.row("1 110 110").told(4, 13).told(5, 0).put(0, 2);
+        }
+        s.row("11 1111").put(0, 24);
+        s.row("1 110 110  0").told(4, 0, 11).put(0, 60).put(0, 60).put(0, 60).put(0, 60).put(0, 60).put(0, 60).put(0, 60)
+            .put(0, 60).put(0, 60).put(0, 60).put(0, 60).put(0, 44).put(-1L, 60).put(-1L, 4).row("0");
+        s.row("1 110 110  0").told(4, 0, 11).put(0, 44).put(15, 4).row("0");
+        for (int i = 0; i < 12; i++) {
+            s.literals(i == 11 ? 'Z' : 'A' + i);
+        }
+        for (int i = 0; i < 12; i++) {
+            s.told(10, i == 11 ? 144 : 136, 703);
+        }
+        for (int i = 0; i < 12; i++) {
+            s.told(10, i == 11 ? 17 : 16, 519);
+        }
+        // KIND 0: a literal, a copy of 1 back; then KIND 11 by COUNTS of 1: two literals, a copy of 2 back.
+        s.row("0 0").row("00 0").row("00 00").row("00 0");
+        Bench.due("twelve of all", b.open(s), 7);
+        Bench.due("out", b.made(), "AAAZZZZ");
+        Bench.due("part", b.part(0), "3 7 12 12 12 12 12 3 120 2 2 0");
+        Bench.due("ring", b.ring(), "2 1 4 11");
+        Bench.due("read()", b.x.read(), (s.size() + 7) / 8 * 8);
+        int[] places = {0, 703, 704, 767, 768};
+        int[] trees = {0, 0, 11, 11, -1};
+        for (int i = 0; i < 5; i++) {
+            Bench.due("map(0, " + places[i] + ")", b.x.map(0, places[i]), trees[i]);
+        }
+        Bench.due("map(1, ..)", b.x.map(1, 43) + " " + b.x.map(1, 44) + " " + b.x.map(1, 47) + " " + b.x.map(1, 48), "0 11 11 -1");
+        Bench.due("length(0, ..)", b.x.length(0, 11, 255) + " " + b.x.length(0, 11, 256) + " " + b.x.length(0, 12, 0), "0 -1 -1");
+        Bench.due("length(1, ..)", b.x.length(1, 11, 144) + " " + b.x.length(1, 11, 703) + " " + b.x.length(1, 11, 704)
+            + " " + b.x.length(1, 12, 0), "1 1 -1 -1");
+        Bench.due("length(2, ..)", b.x.length(2, 11, 17) + " " + b.x.length(2, 11, 519) + " " + b.x.length(2, 11, 520)
+            + " " + b.x.length(2, 12, 0), "1 1 -1 -1");
+    }
+
+    // "the KIND is that before this one (t = 0; 1 at first), the next one (1; behind the last 0), else t - 2"
+    private static void eachKindByEachSign() {
+        for (int t = 0; t < 14; t++) {
+            Bench b = new Bench();
+            Bench.Stream s = b.stream().coded(true, 26).row("1 110 110").told(4, t).told(5, 0).put(0, 2);
+            twelve(s.row("0 0 00 0000").put(0, 24).row("1 110 110  0"));
+            for (int i = 0; i < 768; i++) {
+                ofTwelve(s, i / 64);
+            }
+            s.row("0 0");
+            for (int i = 0; i < 12; i++) {
+                s.literals('a' + i);
+            }
+            // INSERT 26 by code 11, whose three bits are 0; each literal but the first is behind a COUNT of 1.
+            s.commands(256 + 24).distances(0).put(0, 3).put(0, 50);
+            StringBuilder due = new StringBuilder("a");
+            for (int i = 1; i < 26; i++) {
+                due.append((char) ('a' + (t == 0 ? i % 2 : t == 1 ? i % 12 : t - 2)));
+            }
+            Bench.due("t = " + t, b.open(s), 26);
+            Bench.due("t = " + t + ", out", b.made(), due.toString());
+            Bench.due("t = " + t + ", map", b.x.map(0, 63) + " " + b.x.map(0, 64) + " " + b.x.map(0, 767), "0 1 11");
+        }
+    }
+
+    // "For each KIND of literals its MODE": KIND 1 has each MODE, and the other one another.
+    private static void modesOfKinds() {
+        // Behind "@0": of the byte 48 and 64 before it.
+        int[] contexts = {48, 12, 44 | 1, 8 * 2 + 3};
+        for (int mode = 0; mode < 4; mode++) {
+            for (int context = 0; context < 64; context++) {
+                Bench b = new Bench();
+                Bench.Stream s = b.stream().raw("@0").coded(true, 1).row("1 000").told(2, 3).told(5, 0).put(0, 2);
+                s.row("0 0 00 0000").put(mode, 2).put(3 - mode, 2).row("1 000  0").told(1, 0, 1);
+                s.put(context < 60 ? 1L << context : 0, 60).put(context < 60 ? 0 : 1 << context - 60, 4).put(0, 60).put(0, 4);
+                s.row("0 0").literals('A').literals('B').commands(136).distances(0);
+                Bench.due("MODE " + mode, b.open(s), 3);
+                Bench.due("MODE " + mode + ", context " + context, b.x.out(2), context == contexts[mode] ? 'B' : 'A');
+            }
+        }
+        // A literal of KIND 0 is made first, so that KIND 1 stands behind "0A": of 65 and 48 before it.
+        int[] later = {1, 16, 48 | 2, 8 * 3 + 2};
+        for (int mode = 0; mode < 4; mode++) {
+            Bench b = new Bench();
+            Bench.Stream s = b.stream().raw("@0").coded(true, 2).row("1 000").told(2, 3).told(5, 0).put(0, 2);
+            s.row("0 0 00 0000").put(3 - mode, 2).put(mode, 2).row("1 000  0").told(1, 0, 1).put(0, 60).put(0, 4);
+            int context = later[mode];
+            s.put(context < 60 ? 1L << context : 0, 60).put(context < 60 ? 0 : 1 << context - 60, 4);
+            s.row("0 0").literals('A').literals('B').commands(144).distances(0).put(0, 2);
+            Bench.due("MODE " + mode + " of KIND 1", b.open(s), 4);
+            Bench.due("MODE " + mode + " of KIND 1, out", b.made(), "@0AB");
+        }
+    }
+
     private static final int[] INSERTS = {
         0, 1, 2, 3, 4, 5, 6, 8, 10, 14, 18, 26, 34, 50, 66, 98, 130, 194, 322, 578, 1090, 2114, 6210, 22594};
 
@@ -216,6 +357,77 @@ final class CodesTest {
         Bench.due("moved to the front", b.open(close(s.row("1"))), 1);
         Bench.due("its map", mapOf(b), "2 2 0 2 2 2 2 1");
         Bench.due("trees", b.x.part(0, 5) + " " + b.x.part(0, 6), "1 3");
+    }
+
+    // "from 0 on with the row 0, 1, ..: a number is the place in the row, .. and that comes to the front"
+    private static void twelveTreesMoved() {
+        Bench b = new Bench();
+        Bench.Stream s = b.stream().coded(true, 1).row("000 00 0000 00  1 110 110  0").told(4, 11).row("1  0");
+        for (int i = 0; i < 12; i++) {
+            s.literals('a' + i);
+        }
+        Bench.due("all 11, moved", b.open(s.commands(136).distances(0)), 1);
+        for (int i = 0; i < 64; i++) {
+            Bench.due("all 11, moved, map(0, " + i + ")", b.x.map(0, i), 11 - i % 12);
+        }
+        Bench.due("its TREE is the first", b.made(), "l");
+        b = new Bench();
+        s = b.stream().coded(true, 1).row("000 00 0000 00  1 110 110  0").told(4, 11).row("0  0");
+        for (int i = 0; i < 12; i++) {
+            s.literals('a' + i);
+        }
+        Bench.due("all 11, not moved", b.open(s.commands(136).distances(0)), 1);
+        Bench.due("all 11, not moved, map", b.x.map(0, 0) + " " + b.x.map(0, 63), "11 11");
+        b = new Bench();
+        // By RUNS of 16 (28 signs): number 11 is sign 27, a run of 63 sign 5 and 31; then moved.
+        s = b.stream().coded(true, 1).row("000 00 0000 00  1 110 110  1 1111").told(5, 5, 27).row("1 0 11111  1  0");
+        for (int i = 0; i < 12; i++) {
+            s.literals('a' + i);
+        }
+        Bench.due("11, then 0s, moved", b.open(s.commands(136).distances(0)), 1);
+        Bench.due("11, then 0s, moved, map", b.x.map(0, 0) + " " + b.x.map(0, 1) + " " + b.x.map(0, 63), "11 11 11");
+    }
+
+    // "(Without a MAP all is TREE 0.)": also behind PARTS that had MAPS, in this open() and before it.
+    private static void mapsAnew() {
+        Bench b = new Bench();
+        Bench.Stream s = b.stream();
+        for (int part = 0; part < 2; part++) {
+            s.coded(false, 3).row("000 00 0000 00  1 000  0").told(1, 1).row("0  1 000 0").told(1, 1).row("0")
+                .literals('A').literals('B').commands(136).distances(17).distances(16).row("0");
+        }
+        for (int part = 0; part < 2; part++) {
+            s.coded(part == 1, 3).plain().literals('C').commands(136).distances(16).row("0");
+        }
+        Bench.due("with MAPS and without", b.open(s), 12);
+        Bench.due("out", b.made(), "BBBBBBCCCCCC");
+        for (int i = 0; i < 64; i++) {
+            Bench.due("map(0, " + i + ")", b.x.map(0, i), 0);
+        }
+        Bench.due("map(1, ..)", b.x.map(1, 0) + " " + b.x.map(1, 3) + " " + b.x.map(1, 4), "0 0 -1");
+    }
+
+    // "BAD: none such" of map() and length().
+    private static void askedBeyond() {
+        Bench b = new Bench();
+        b.open(b.stream().coded(true, 1).plain().told(8, 0, 255).told(10, 136, 703).told(6, 0, 63).row("0 0"));
+        int[] far = {Integer.MIN_VALUE, -1, Integer.MAX_VALUE};
+        for (int v : far) {
+            Bench.due("map(0, " + v + ")", b.x.map(0, v), BrotliWords.BAD);
+            Bench.due("map(1, " + v + ")", b.x.map(1, v), BrotliWords.BAD);
+            Bench.due("map(" + v + ", 0)", b.x.map(v, 0), BrotliWords.BAD);
+            Bench.due("length(" + v + ", 0, 0)", b.x.length(v, 0, 0), BrotliWords.BAD);
+            for (int sort = 0; sort < 3; sort++) {
+                Bench.due("length(" + sort + ", " + v + ", 0)", b.x.length(sort, v, 0), BrotliWords.BAD);
+                Bench.due("length(" + sort + ", 0, " + v + ")", b.x.length(sort, 0, v), BrotliWords.BAD);
+            }
+        }
+        Bench.due("map(2, 0), length(3, 0, 0)", b.x.map(2, 0) + " " + b.x.length(3, 0, 0), "-1 -1");
+        Bench.due("the last of each", b.x.length(0, 0, 255) + " " + b.x.length(1, 0, 703) + " " + b.x.length(2, 0, 63)
+            + " " + b.x.map(0, 63) + " " + b.x.map(1, 3), "1 1 1 0 0");
+        Bench.due("the ones behind", b.x.length(0, 0, 256) + " " + b.x.length(1, 0, 704) + " " + b.x.length(2, 0, 64)
+            + " " + b.x.map(0, 64) + " " + b.x.map(1, 4), "-1 -1 -1 -1 -1");
+        Bench.due("the next TREE", b.x.length(0, 1, 0) + " " + b.x.length(1, 1, 0) + " " + b.x.length(2, 1, 0), "-1 -1 -1");
     }
 
     private static Bench.Stream close(Bench.Stream s) {

@@ -2,20 +2,32 @@
 final class PackTest {
     public static void main(String[] args) {
         refused();
+        refusedLeavesAll();
         levelNone();
+        rawSizes();
         nothing();
         oneLiteral();
         fewSigns();
         manySigns();
+        zerosByMarks();
+        noLiterals();
         loneMark();
         longCodeOfMarks();
         copies();
+        copiesAtTheirEdges();
         ringSigns();
+        leastSign();
+        farSigns();
+        cells();
         wordChoices();
+        wordsAtTheirEdges();
+        wordNumbers();
         longest();
         cheapest();
         codesOfNumbers();
         commandsStay();
+        commandIsBad();
+        noise();
         backAndForth();
         Bench.finish("PackTest");
     }
@@ -41,6 +53,42 @@ final class PackTest {
         full.x.wipe();
         Bench.due("pack(0) of 2,000", full.text("x".repeat(2000)).x.pack(0), 2006);
         Bench.due("pack(1) of 2,000", full.text("x".repeat(2000)).x.pack(1) < 40 ? 1 : 0, 1);
+    }
+
+    // "BAD: another LEVEL, above 2,000 bytes (the TAPE stays)": and so does what the latest pack() made.
+    private static void refusedLeavesAll() {
+        Bench b = new Bench().text("abcdabcd");
+        int size = b.x.pack(1);
+        String made = b.made();
+        b.text("y".repeat(2001));
+        for (int level : new int[] {-1, 3, 4, Integer.MIN_VALUE, Integer.MAX_VALUE, 0, 1, 2}) {
+            Bench.due("pack(" + level + ")", b.x.pack(level), BrotliWords.BAD);
+        }
+        Bench.due("TAPE", b.x.count(1), 2001);
+        Bench.due("its last byte", b.x.spoil(2000, 1), 'y' ^ 1);
+        Bench.due("OUT", b.x.count(2), size);
+        Bench.due("OUT's bytes", b.made(), made);
+        Bench.due("commands", b.x.count(4) + ": " + b.command(0), "1: 4 4 4 34");
+        b.x.wipe();
+        b.text("z");
+        for (int level : new int[] {-1, 3, Integer.MIN_VALUE, Integer.MAX_VALUE}) {
+            Bench.due("pack(" + level + ") of one", b.x.pack(level), BrotliWords.BAD);
+            Bench.due("TAPE of one", b.x.count(1), 1);
+        }
+        Bench.due("commands still", b.x.count(4), 1);
+    }
+
+    // "LEVEL 0: .. if there are bytes: a RAW PART (four NIBBLES); an EMPTY one": 1 and 2,000 of them.
+    private static void rawSizes() {
+        for (int size : new int[] {1, 2, 20, 255, 256, 257, 1999, 2000}) {
+            Bench b = new Bench().text("x".repeat(size));
+            Bench.due("pack(0) of " + size, b.x.pack(0), size + 6);
+            Bench.due("its ends", b.x.out(0) + " " + b.x.out(5) + " " + b.x.out(4 + size) + " " + b.x.out(5 + size), "101 120 120 3");
+            Bench.due("count(4)", b.x.count(4), 0);
+            b.x.pass();
+            Bench.due("open", b.x.open(), size);
+            Bench.due("parts", b.part(0) + " | " + b.part(1), "2 " + size + " 0 0 0 0 0 0 0 0 0 0 | 0 0 0 0 0 0 0 0 0 0 0 0");
+        }
     }
 
     private static void levelNone() {
@@ -94,6 +142,34 @@ final class PackTest {
         packs("runs of 0s", b, 2, b.stream().coded(true, 5).plain().row("00 00 110 110 00 110 00 110")
             .row("10 00 00 10 11 000 01 01 01").commands(168).distances(0)
             .row("110 111 00 01 10"));
+    }
+
+    // "0s: if three or more are one behind the other from there on, and the mark before was no 17: a 17 for ten of
+    // them at most; else a 0": so many 0s ahead of five signs, whose LENGTHS are 3, 3, 2, 2, 2.
+    private static void zerosByMarks() {
+        int[] zeros = {2, 3, 10, 11, 13, 14};
+        String[] marks = {"00 1110 110 00 110", "00 1110 110 00 00 00 110", "00 1110 110 00 00 00 110",
+            "00 1110 110 00 01 00 01", "00 110 110 00 110 00 110", "00 110 110 00 110 00 110"};
+        String[] rows = {"10 10  11 11 0 0 0", "11 000  10 10 0 0 0", "11 111  10 10 0 0 0",
+            "111 111 110  10 10 0 0 0", "11 111 00 00 00  10 10 01 01 01", "11 111 00 11 000  10 10 01 01 01"};
+        for (int i = 0; i < zeros.length; i++) {
+            char z = (char) zeros[i];
+            Bench b = new Bench().text("" + z + (char) (z + 1) + (char) (z + 2) + (char) (z + 3) + (char) (z + 4));
+            packs(zeros[i] + " 0s ahead", b, 1 + i % 2, b.stream().coded(true, 5).plain().row("00").row(marks[i]).row(rows[i])
+                .commands(168).distances(0).row("110 111 00 01 10"));
+        }
+    }
+
+    // "none at all: sign 0 alone": of literals where there are WORDS alone; of distances where sign 0 is all.
+    private static void noLiterals() {
+        Bench b = new Bench().words("word", "more");
+        packs("a WORD alone", b.text("word"), 1, b.stream().coded(true, 4).plain().literals(0).commands(130)
+            .distances(16).row("0"));
+        Bench last = new Bench().words("aaaa", "bbbb", "cccc", "dddd");
+        packs("sign 0 alone", last.text("dddd"), 2, last.stream().coded(true, 4).plain().literals(0).commands(2).distances(0));
+        // At the second place the last DISTANCE, 4, is a COPY of all that is there.
+        packs("sign 0 twice", last.text("dddddddd"), 1, last.stream().coded(true, 8).plain().literals(0).commands(2, 130)
+            .distances(16).row("0  1 0"));
     }
 
     private static void loneMark() {
@@ -167,6 +243,29 @@ final class PackTest {
         Bench.due("command(2, 0)", b.x.command(2, 0), BrotliWords.BAD);
     }
 
+    // "the greatest m (4 .. 200)", "(they may go on into those from p on)", "of like ones the nearest".
+    private static void copiesAtTheirEdges() {
+        for (int level = 1; level < 3; level++) {
+            for (int size = 1; size <= 4; size++) {
+                chooses(size + " of one byte", new Bench().text("a".repeat(size)), level, size + " 0 0 " + (128 + 8 * size));
+            }
+            chooses("5 of one byte", new Bench().text("a".repeat(5)), level, "1 4 1 " + (128 + 8 + 2));
+            chooses("200 of one byte", new Bench().text("a".repeat(200)), level, "1 199 1 " + (384 + 8 + 3));
+            chooses("201 of one byte", new Bench().text("a".repeat(201)), level, "1 200 1 " + (384 + 8 + 3));
+            chooses("202 of one byte", new Bench().text("a".repeat(202)), level, "1 200 1 395", "1 0 0 136");
+            chooses("204 of one byte", new Bench().text("a".repeat(204)), level, "1 200 1 395", "3 0 0 152");
+            chooses("205 of one byte", new Bench().text("a".repeat(205)), level, "1 200 1 395", "0 4 1 2");
+            chooses("from the first byte", new Bench().text("abcdeabcd"), level, "5 4 5 " + (128 + 40 + 2));
+            chooses("at the last bytes", new Bench().text("12345abcdefabcd"), level, "11 4 6 " + (256 + 2));
+            chooses("three at the last", new Bench().text("12345abcdefabc"), level, "14 0 0 " + (256 + 8));
+            chooses("the nearest of three", new Bench().text("abcd1abcd2abcd3abcd"), level,
+                "5 4 5 170", "1 4 5 10", "1 4 5 10");
+        }
+        // 400 bytes that stand twice: 200 at a time, of like ones the nearest.
+        String text = noiseOf(400, 5);
+        chooses("400 again", new Bench().text(text + text), 1, "400 200 400 " + (64 * 10 + 16 + 3), "0 200 400 " + (384 + 3));
+    }
+
     /** Distances 11, 15 and 16 are signs 1, 2, 3 at first; each comes to THE RING then. */
     private static void ringSigns() {
         int[] distances = {4, 11, 15, 16};
@@ -185,6 +284,127 @@ final class PackTest {
         // With sign 0 in a command of its own: few literals ahead and a COPY below 70.
         chooses("cells 0 and 1", new Bench().text("abcdabcd!bcd!zzzzzzzzzz"), 1,
             "4 4 4 34", "1 4 4 " + (8 + 2), "1 9 1 " + (128 + 8 + 7));
+    }
+
+    // "the least sign of 0 .. 3 that means it": THE RING is 4, 11, 4, 11 when 11 comes again.
+    private static void leastSign() {
+        Bench b = new Bench().text("0123456789A" + "01234" + "1234" + "9A012");
+        b.x.pack(1);
+        Bench.due("commands", b.x.count(4) + ": " + b.command(0) + " | " + b.command(1) + " | " + b.command(2),
+            "3: 11 5 11 259 | 0 4 4 130 | 0 5 11 131");
+        b.x.pass();
+        Bench.due("open", b.x.open(), 25);
+        // A lone sign has no LENGTH: it was sign 1 three times.
+        Bench.due("signs 1 and 3", b.x.length(2, 0, 1) + " " + b.x.length(2, 0, 3), "0 0");
+        Bench.due("ring", b.ring(), "11 4 11 4");
+    }
+
+    // "else that above 15": the first and the last distance of each sign from 16 on.
+    private static void farSigns() {
+        int first = 1;
+        for (int sign = 16; first < 1900; sign++) {
+            int last = first + (1 << 1 + (sign - 16) / 2) - 1;
+            for (int distance : new int[] {first, last}) {
+                if (distance >= 6 && distance < 1990 && distance != 11 && distance != 15 && distance != 16) {
+                    trySign(distance, sign);
+                }
+            }
+            first = last + 1;
+        }
+    }
+
+    /** Four bytes, so many others that they come again at a distance, by COPIES of 1 back. */
+    private static void trySign(int distance, int sign) {
+        Bench b = new Bench().text("wxyz" + "a".repeat(distance - 4) + "wxyz!");
+        b.x.pack(1);
+        int last = b.x.count(4) - 2;
+        Bench.due("COPY of " + distance + " back", b.x.command(last, 1) + " " + b.x.command(last, 2), "4 " + distance);
+        b.x.pass();
+        Bench.due("open", b.x.open(), distance + 5);
+        if (distance >= 9) {
+            Bench.due("sign " + sign + " of " + distance, b.x.length(2, 0, sign) > 0 ? 1 : 0, 1);
+            Bench.due("the signs beside it", b.x.length(2, 0, sign - 1) + " " + b.x.length(2, 0, sign + 1), "0 0");
+        }
+    }
+
+    // "Cell 0 (copy codes below 8) or 1 (below 16) with sign 0 and an insert code below 8; else .. 2 .. 10".
+    private static void cells() {
+        int[] inserts = {4, 8, 9, 10, 13, 129, 130, 150};
+        int[] insertCodes = {4, 7, 7, 8, 8, 15, 16, 16};
+        int[] copies = {4, 9, 10, 69, 70, 200};
+        int[] copyCodes = {2, 7, 8, 15, 16, 19};
+        int[] others = {2, 3, 6, 4, 5, 8, 7, 9, 10};
+        for (int i = 0; i < inserts.length; i++) {
+            for (int j = 0; j < copies.length; j++) {
+                for (int distance = 4; distance <= inserts[i]; distance += inserts[i] - 4 > 0 ? inserts[i] - 4 : 9) {
+                    tryCell(inserts[i], insertCodes[i], copies[j], copyCodes[j], distance, others);
+                }
+            }
+        }
+    }
+
+    /** Literals that have no four bytes twice, then bytes of so far back; 4 back is sign 0 at first. */
+    private static void tryCell(int insert, int insertCode, int copy, int copyCode, int distance, int[] others) {
+        StringBuilder text = new StringBuilder();
+        for (int i = 0; i < insert; i++) {
+            text.append((char) (i + 1));
+        }
+        for (int i = 0; i < copy; i++) {
+            text.append(text.charAt(text.length() - distance));
+        }
+        boolean last = distance == 4 && insertCode < 8 && copyCode < 16;
+        int cell = last ? copyCode / 8 : others[insertCode / 8 * 3 + copyCode / 8];
+        for (int level = 1; level < 3; level++) {
+            Bench b = new Bench().text(text.toString());
+            chooses("cell of " + insert + ", " + copy, b, level, insert + " " + copy + " " + distance + " "
+                + (64 * cell + insertCode % 8 * 8 + copyCode % 8));
+            b.x.pass();
+            Bench.due("open", b.x.open(), text.length());
+            Bench.due("out", b.made(), text.toString());
+        }
+    }
+
+    // "make just the bytes there, 4 at least": what ends with the TAPE, and what would go beyond it.
+    private static void wordsAtTheirEdges() {
+        String[] texts = {"word", "wor", "word,", "word, ", "word ", " word", " wor", "Word,", "WORD, ", "WoRD", "ord", "ord "};
+        String[] due = {"0 4 1", "3 0 0", "0 4 1", "0 4 19", "0 4 7", "0 4 13", "0 4 17", "0 4 2", "0 4 21", "4 0 0", "3 0 0", "0 4 10"};
+        for (int i = 0; i < texts.length; i++) {
+            for (int level = 1; level < 3; level++) {
+                Bench b = new Bench().words("word").text(texts[i]);
+                b.x.pack(level);
+                Bench.due("<" + texts[i] + ">", b.x.command(0, 0) + " " + b.x.command(0, 1) + " " + b.x.command(0, 2), due[i]);
+            }
+        }
+        // LENGTH 5 without one byte and LENGTH 6 without two make four; LENGTH 5 without two and a blank, too.
+        chooses("without the first", new Bench().words("abcde").text("bcde"), 1, "0 5 4 3");
+        chooses("without the last", new Bench().words("abcde").text("abcd"), 1, "0 5 5 131");
+        chooses("without the last two", new Bench().words("abcdef").text("abcd"), 1, "0 6 6 132");
+        chooses("three and a blank", new Bench().words("abcde").text("abc "), 1, "0 5 12 131");
+        chooses("three alone", new Bench().words("abcde").text("abc"), 1, "3 0 0 152");
+        chooses("twelve bytes", new Bench().words("abcdefghij").text("ABCDEFGHIJ, "), 1, "0 10 21 192");
+        chooses("of like ones the least number", new Bench().words("abcde", "abcdf").text("abcd"), 1, "0 5 9 131");
+        chooses("of like ones the least LENGTH", new Bench().words("xabcdef", "abcdef").text("abcdef"), 1, "0 6 1 132");
+        chooses("though its number is greater", new Bench().words("xabcdef", "ghijkl", "abcdef").text("abcdef"), 1, "0 6 2 132");
+        chooses("a blank ahead or behind", new Bench().words("abcd").text(" abcd "), 1, "0 4 13 130", "1 0 0 136");
+    }
+
+    // DISTANCE of a WORD: MOST and 1, and its number, and CHANGE times 2^BITS.
+    private static void wordNumbers() {
+        for (int many : new int[] {1, 2, 3, 4, 5, 8, 9, 16, 17, 31, 32}) {
+            int room = many == 1 ? 1 : 2 * Integer.highestOneBit(many - 1);
+            Bench b = new Bench();
+            for (int i = 0; i < many; i++) {
+                b.words("w" + (char) ('A' + i) + "xy");
+            }
+            String word = "w" + (char) ('A' + many - 1) + "xy";
+            b.text("!!" + word).x.pack(1);
+            Bench.due("the last of " + many, b.x.command(0, 2), 3 + many - 1);
+            b.text("!!" + word.toUpperCase() + ", ").x.pack(2);
+            Bench.due("CHANGE 20 of the last of " + many, b.x.command(0, 2), 3 + many - 1 + 20 * room);
+            b.x.pass();
+            Bench.due("open", b.x.open(), 8);
+            Bench.due("out", b.made(), "!!" + word.toUpperCase() + ", ");
+        }
     }
 
     private static void wordChoices() {
@@ -284,6 +504,51 @@ final class PackTest {
             "1 " + b.x.read() + " 2");
         b.text("abc").x.pack(0);
         Bench.due("LEVEL 0 has none", b.x.count(4), 0);
+    }
+
+    // "BAD: none such": of command().
+    private static void commandIsBad() {
+        Bench b = new Bench().text("abcdabcd!");
+        b.x.pack(2);
+        Bench.due("the last command", b.command(1), "1 0 0 136");
+        for (int v : new int[] {-1, 2, 3, Integer.MIN_VALUE, Integer.MAX_VALUE}) {
+            Bench.due("command(" + v + ", 0)", b.x.command(v, 0), BrotliWords.BAD);
+        }
+        for (int v : new int[] {-1, 4, 5, Integer.MIN_VALUE, Integer.MAX_VALUE}) {
+            Bench.due("command(0, " + v + ")", b.x.command(0, v), BrotliWords.BAD);
+        }
+        for (int level = 0; level < 3; level++) {
+            b.x.pack(level);
+            Bench.due("nothing by " + level, b.x.count(4) + " " + b.x.command(0, 0), "0 -1");
+        }
+    }
+
+    // 2,000 bytes that have nothing in common: by each LEVEL they come back, and OUT goes to the TAPE.
+    private static void noise() {
+        String text = noiseOf(2000, 7);
+        for (int level = 0; level < 3; level++) {
+            Bench b = new Bench().text(text);
+            int size = b.x.pack(level);
+            Bench.due("noise by " + level, b.x.count(2), size);
+            Bench.due("noise by " + level + ", pass", b.x.pass(), size);
+            Bench.due("noise by " + level + ", open", b.x.open(), 2000);
+            b.x.pass();
+            b.x.pack(0);
+            boolean same = true;
+            for (int i = 0; i < 400; i++) {
+                same &= b.x.out(5 + 5 * i) == text.charAt(5 * i);
+            }
+            Bench.due("noise by " + level + ", out", same ? 1 : 0, 1);
+        }
+    }
+
+    private static String noiseOf(int size, int seed) {
+        java.util.Random chance = new java.util.Random(seed);
+        StringBuilder noise = new StringBuilder();
+        for (int i = 0; i < size; i++) {
+            noise.append((char) chance.nextInt(256));
+        }
+        return noise.toString();
     }
 
     /** Texts of words, copies and literals by chance: what is packed opens to the same again. */

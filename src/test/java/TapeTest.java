@@ -3,10 +3,18 @@ final class TapeTest {
     public static void main(String[] args) {
         newObject();
         feed();
+        feedIsFull();
         end();
+        endIsBad();
         bits();
+        bitsOfEachNumber();
+        bitsAreFull();
         bitsGoOn();
+        refusedCallsLetBitsGoOn();
+        refusedPassLetsBitsGoOn();
+        callsThatOnlyTellLetBitsGoOn();
         spoil();
+        spoilIsBad();
         wipe();
         Bench.finish("TapeTest");
     }
@@ -43,6 +51,37 @@ final class TapeTest {
         Bench.due("feed to 2,419", b.x.feed(1, 2, 3, 4, 5), BrotliWords.FULL);
         Bench.due("end(0)", b.x.end(0), 2379);
         Bench.due("feed to 2,399", b.x.feed(1, 2, 3, 4, 5), 2399);
+    }
+
+    // "FULL: above 2,400": 2,380 may grow, 2,381 may not, and what is there stays.
+    private static void feedIsFull() {
+        Bench b = new Bench().text("0123456789".repeat(238));
+        Bench.due("2,380", b.x.count(1), 2380);
+        b.x.bits('!', 8);
+        Bench.due("feed to 2,401", b.x.feed(-1, -1, -1, -1, -1), BrotliWords.FULL);
+        Bench.due("2,381 stay", b.x.count(1), 2381);
+        Bench.due("the last stays", b.x.spoil(2380, 1), '!' ^ 1);
+        Bench.due("so does the one before", b.x.spoil(2379, 1), '9' ^ 1);
+        Bench.due("none is behind", b.x.spoil(2381, 1), BrotliWords.BAD);
+        Bench other = new Bench().text("0123456789".repeat(238));
+        Bench.due("feed to 2,400", other.x.feed(-1, -1, -1, -1, -1), 2400);
+    }
+
+    // "the first n (0 .. 20) stay"; "BAD: another n, or fewer than twenty are there".
+    private static void endIsBad() {
+        for (int n = 0; n <= 20; n++) {
+            Bench b = new Bench();
+            b.x.feed(0x61626364, 0x65666768, 0x696a6b6c, 0x6d6e6f70, 0x71727374);
+            for (int bad : new int[] {-1, 21, 40, Integer.MIN_VALUE, Integer.MAX_VALUE}) {
+                Bench.due("end(" + bad + ")", b.x.end(bad), BrotliWords.BAD);
+            }
+            Bench.due("twenty stay", b.x.count(1), 20);
+            Bench.due("end(" + n + ")", b.x.end(n), n);
+            Bench.due("end(0) of " + n, b.x.end(0), n == 20 ? 0 : BrotliWords.BAD);
+            Bench.due("what stays of " + n, b.x.count(1), n == 20 ? 0 : n);
+            b.x.pack(0);
+            Bench.due("its bytes", b.made().substring(n % 20 == 0 ? 3 : 5).startsWith("abcdefghijklmnopqrst".substring(0, n % 20)) ? 1 : 0, 1);
+        }
     }
 
     private static void end() {
@@ -91,6 +130,43 @@ final class TapeTest {
         Bench.due("last byte", full.x.spoil(2399, 1), 129);
     }
 
+    // "The n (1 .. 32) lowest bits of a number": what is above them does not come.
+    private static void bitsOfEachNumber() {
+        for (int n = 1; n <= 32; n++) {
+            for (int v : new int[] {-1, 0x55555555, 0xAAAAAAAA, Integer.MIN_VALUE, 1}) {
+                Bench b = new Bench();
+                Bench.due("bits(" + v + ", " + n + ")", b.x.bits(v, n), n);
+                Bench.due("its bytes", b.x.count(1), (n + 7) / 8);
+                long bits = v & (1L << n) - 1;
+                b.x.pack(0);
+                for (int i = 0; i < (n + 7) / 8; i++) {
+                    Bench.due("byte " + i, b.x.out(5 + i), bits >> 8 * i & 255);
+                }
+            }
+        }
+        Bench b = new Bench();
+        for (int n : new int[] {0, -1, 33, Integer.MIN_VALUE, Integer.MAX_VALUE}) {
+            Bench.due("bits(1, " + n + ")", b.x.bits(1, n), BrotliWords.BAD);
+        }
+        Bench.due("nothing came", b.x.count(1), 0);
+    }
+
+    // "FULL: above 19,200 bits": also where bits are free in the last byte, but do not go on there.
+    private static void bitsAreFull() {
+        Bench b = new Bench().text("x".repeat(2399));
+        Bench.due("bits to 19,193", b.x.bits(1, 1), 19193);
+        Bench.due("bits to 19,201", b.x.bits(0, 8), BrotliWords.FULL);
+        Bench.due("nothing came", b.x.count(1), 2400);
+        Bench.due("bits to 19,199", b.x.bits(-1, 6), 19199);
+        Bench.due("spoil", b.x.spoil(2399, 1), 126);
+        Bench.due("a bit behind a whole byte", b.x.bits(1, 1), BrotliWords.FULL);
+        Bench.due("feed", b.x.feed(0, 0, 0, 0, 0), BrotliWords.FULL);
+        Bench.due("the byte stays", b.x.spoil(2399, 1), 127);
+        Bench.due("32 bits", b.x.bits(0, 32), BrotliWords.FULL);
+        b.x.end(16);
+        Bench.due("32 bits to 19,200", b.x.bits(0, 32), 19200);
+    }
+
     private static void bitsGoOn() {
         Bench b = new Bench();
         b.x.bits(1, 3);
@@ -113,7 +189,32 @@ final class TapeTest {
         b.x.pack(0);
         b.x.pass();
         Bench.due("bits behind pass", b.x.bits(1, 1), 57);
-        refusedCallsLetBitsGoOn();
+        bitsBehindNoChange();
+    }
+
+    // ".. if none of feed(), end(), .. came since that was not refused, whatever it changed"
+    private static void bitsBehindNoChange() {
+        Bench b = new Bench();
+        b.x.pack(0);
+        b.x.pass();
+        Bench.due("bits behind three bytes", b.x.bits(0, 1), 25);
+        b.x.open();
+        b.x.bits(1, 3);
+        b.x.wipe();
+        b.x.open();
+        Bench.due("pass() of nothing", b.x.pass(), 0);
+        Bench.due("bits behind pass() of nothing", b.x.bits(1, 5), 5);
+        Bench.due("pass() of nothing again", b.x.pass(), 0);
+        Bench.due("bits start anew", b.x.bits(1, 2), 2);
+        b.x.wipe();
+        b.x.bits(0, 17);
+        b.x.feed(0, 0, 0, 0, 0);
+        b.x.bits(7, 3);
+        Bench.due("end(20) leaves all", b.x.end(20), 24);
+        Bench.due("bits behind end(20)", b.x.bits(1, 3), 195);
+        Bench.due("they go on", b.x.bits(1, 1), 196);
+        Bench.due("the byte before has its three", b.x.spoil(23, 255), 248);
+        Bench.due("the last has its own", b.x.spoil(24, 255), 255 - 9);
     }
 
     private static void refusedCallsLetBitsGoOn() {
@@ -145,6 +246,62 @@ final class TapeTest {
         Bench.due("feed above 2,400", b.x.feed(0, 0, 0, 0, 0), BrotliWords.FULL);
         Bench.due("pack above 2,000", b.x.pack(1), BrotliWords.BAD);
         Bench.due("bits behind a FULL feed()", b.x.bits(1, 1), 119 * 160 + 2);
+    }
+
+    // pass() is refused where OUT has above 2,400 bytes.
+    private static void refusedPassLetsBitsGoOn() {
+        Bench b = new Bench();
+        b.open(b.stream().coded(true, 2401).plain().literals('a').commands(488).distances(0).put(2401 - 2114, 12));
+        b.x.bits(1, 3);
+        Bench.due("pass() of 2,401", b.x.pass(), BrotliWords.FULL);
+        Bench.due("bits behind it", b.x.bits(1, 1), 4);
+        Bench.due("all that is there", b.x.spoil(0, 255), 255 - 9);
+    }
+
+    // What is not named among feed(), end(), spoil(), wipe(), word(), pack(), open(), pass() is no matter.
+    private static void callsThatOnlyTellLetBitsGoOn() {
+        Bench b = new Bench().words("abcd");
+        b.text("abcdabcd").x.pack(1);
+        b.x.pass();
+        b.x.open();
+        b.x.bits(1, 1);
+        b.x.clear();
+        b.x.digest();
+        b.x.changed(4, 0, 0, 0);
+        b.x.out(0);
+        b.x.read();
+        b.x.part(0, 0);
+        b.x.ring(0);
+        b.x.map(0, 0);
+        b.x.length(0, 0, 0);
+        b.x.command(0, 0);
+        b.x.count(0);
+        Bench.due("bits go on", b.x.bits(1, 1), 2);
+    }
+
+    // "BAD: none such, mask not 1 .. 255"
+    private static void spoilIsBad() {
+        Bench b = new Bench();
+        b.x.bits(0x155, 9);
+        for (int i : new int[] {-1, 2, Integer.MIN_VALUE, Integer.MAX_VALUE}) {
+            Bench.due("spoil(" + i + ", 1)", b.x.spoil(i, 1), BrotliWords.BAD);
+        }
+        for (int mask : new int[] {0, -1, 256, 257, Integer.MIN_VALUE, Integer.MAX_VALUE}) {
+            Bench.due("spoil(0, " + mask + ")", b.x.spoil(0, mask), BrotliWords.BAD);
+        }
+        Bench.due("bits go on", b.x.bits(1, 1), 10);
+        Bench.due("the bytes stay", b.x.spoil(0, 1) + " " + b.x.spoil(1, 255), "84 252");
+        for (int mask = 1; mask < 256; mask++) {
+            Bench.due("spoil(0, " + mask + ")", b.x.spoil(0, mask), 84 ^ mask);
+            b.x.spoil(0, mask);
+            b = mask == 128 ? again() : b;
+        }
+    }
+
+    private static Bench again() {
+        Bench b = new Bench();
+        b.x.bits(84, 8);
+        return b;
     }
 
     private static void spoil() {
