@@ -17,6 +17,9 @@ final class CodesTest {
         askedBeyond();
         shortCodes();
         longCodes();
+        loneAnew();
+        allSignsThere();
+        lastOfAllSigns();
         latestPartWithCodes();
         Bench.finish("CodesTest");
     }
@@ -206,15 +209,13 @@ final class CodesTest {
         Bench b = new Bench();
         Bench.Stream s = b.stream();
         for (int part = 0; part < 3; part++) {
-            // One literal of KIND 0; by t = 0 three of that before, KIND 1, then two of KIND 0, and so on.
-            s.coded(part == 2, 5 + part).row("1 000").told(2, 0).told(5, 0).put(0, 2);
+            // One literal of KIND 0; then, by t = 0, a COUNT of three or four of that before it, KIND 1.
+            s.coded(part == 2, 4).row("1 000").told(2, 0).told(5, 0).put(0, 2);
             s.row("0 0 00 0000 0000  1 000  0").told(1, 0, 1).put(0, 64).put(-1L, 63).row("1").row("0");
-            s.row("0").literals('A').literals('B').commands(128 + 40 + 8 * Math.min(1, part)).distances(0);
-            s.row(part == 0 ? "" : part == 1 ? "0" : "1").put(2, 2);
-            s.put(1, 2).row(part == 2 ? "01" : "");
+            s.row("0").literals('A').literals('B').commands(160).distances(0).put(2 + part % 2, 2);
         }
-        Bench.due("three PARTS", b.open(s), 18);
-        Bench.due("out", b.made(), "ABBBA" + "ABBBAA" + "ABBBAAB");
+        Bench.due("three PARTS", b.open(s), 12);
+        Bench.due("out", b.made(), "ABBBABBBABBB");
     }
 
     /** A CODE of twelve signs: the first four have three bits, the others four. */
@@ -520,6 +521,103 @@ final class CodesTest {
         s.row("1110").commands(144).distances(0).row("111111111111111 10");
         Bench.due("LENGTHS up to 15", b.open(s), 2);
         Bench.due("LENGTHS up to 15, out", b.made(), "\u000f\u0001");
+        for (int sign = 0; sign < 17; sign++) {
+            Bench.due("LENGTHS up to 15, length of " + sign, b.x.length(0, 0, sign), sign < 15 ? sign + 1 : sign == 15 ? 15 : 0);
+        }
+    }
+
+    // "0 (a lone one, too)": also where the CODES before it had LENGTHS.
+    private static void loneAnew() {
+        Bench b = new Bench();
+        for (int turn = 0; turn < 3; turn++) {
+            b.open(b.stream().coded(true, 1).plain().told(8, 'a', 'b').commands(136, 137).distances(0, 1).row("0 0"));
+            Bench.due("two signs", b.x.length(0, 0, 'a') + " " + b.x.length(1, 0, 136) + " " + b.x.length(2, 0, 1), "1 1 1");
+        }
+        for (int turn = 0; turn < 3; turn++) {
+            Bench.due("open", b.open(b.stream().coded(true, 1).plain().literals('a').commands(136).distances(1)), 1);
+            Bench.due("a lone one", b.x.length(0, 0, 'a') + " " + b.x.length(1, 0, 136) + " " + b.x.length(2, 0, 1), "0 0 0");
+            Bench.due("others", b.x.length(0, 0, 'b') + " " + b.x.length(1, 0, 137) + " " + b.x.length(2, 0, 0), "0 0 0");
+        }
+    }
+
+    /** A CODE in which each of a signs is there: the first ones have n bits, the others one more. */
+    private static Bench.Stream full(Bench.Stream s, int a) {
+        int n = 31 - Integer.numberOfLeadingZeros(a);
+        int first = (2 << n) - a;
+        String order = "1 2 3 4 0 5 17 6 16 7 8 9 10";
+        s.row("00");
+        for (String mark : order.split(" ")) {
+            if (Integer.parseInt(mark) <= n + 1 || n > 4) {
+                s.row(mark.equals("" + n) || mark.equals("" + (n + 1)) ? "1110" : "00");
+            }
+            if (mark.equals("" + (n + 1))) {
+                break;
+            }
+        }
+        return s.row("0".repeat(first)).row("1".repeat(a - first));
+    }
+
+    private static Bench.Stream ofFull(Bench.Stream s, int a, int sign) {
+        int n = 31 - Integer.numberOfLeadingZeros(a);
+        int first = (2 << n) - a;
+        return s.row(Integer.toBinaryString(sign < first ? (1 << n) + sign : (2 << n) + 2 * first + sign - first).substring(1));
+    }
+
+    // The greatest CODES: all of 14 and 26 signs of KINDS and COUNTS, 28 of a MAP, 704 commands, 520 distances.
+    private static void allSignsThere() {
+        Bench b = new Bench();
+        Bench.Stream s = b.stream().coded(true, 2);
+        // At first a COUNT of one by sign 0; KIND 11 comes second, by t = 13.
+        for (int sort = 0; sort < 3; sort++) {
+            full(full(s.row("1 110 110"), 14), 26);
+            ofFull(s, 26, 0).put(0, 2);
+        }
+        s.row("11 1111").put(0, 24);
+        // RUNS 16 and 12 TREES: 704 0s by sign 9, then 64 times number 11, that is sign 27; of distances 44 and 4.
+        full(s.row("1 110 110  1 1111"), 28);
+        ofFull(s, 28, 9).put(704 - 512, 9);
+        for (int i = 0; i < 64; i++) {
+            ofFull(s, 28, 27);
+        }
+        full(s.row("0  1 110 110  1 1111"), 28);
+        ofFull(s, 28, 5).put(44 - 32, 5);
+        for (int i = 0; i < 4; i++) {
+            ofFull(s, 28, 27);
+        }
+        s.row("0");
+        for (int i = 0; i < 12; i++) {
+            s.literals(i == 11 ? 'Z' : 'A');
+        }
+        for (int i = 0; i < 11; i++) {
+            s.commands(144);
+        }
+        full(s, 704);
+        for (int i = 0; i < 11; i++) {
+            s.told(10, 16);
+        }
+        full(s, 520);
+        ofFull(s, 14, 13);
+        ofFull(s, 26, 0).put(0, 2);
+        Bench.due("all signs", b.open(s), 2);
+        Bench.due("out", b.made(), "AZ");
+        Bench.due("part", b.part(0), "3 2 12 12 12 12 12 3 120 1 0 0");
+        Bench.due("lengths", b.x.length(1, 11, 319) + " " + b.x.length(1, 11, 320) + " " + b.x.length(1, 11, 703) + " "
+            + b.x.length(2, 11, 503) + " " + b.x.length(2, 11, 504) + " " + b.x.length(2, 11, 519), "9 10 10 9 10 10");
+        Bench.due("maps", b.x.map(0, 703) + " " + b.x.map(0, 704) + " " + b.x.map(1, 43) + " " + b.x.map(1, 44), "0 11 0 11");
+    }
+
+    /** CODES of all 704 and 520 signs, of which the last one is read. */
+    private static void lastOfAllSigns() {
+        Bench b = new Bench();
+        Bench.Stream s = b.lead(0).coded(false, 2992).row("000 11 1111 00 00").literals('x');
+        // INSERT 22,594 and COPY 2,118, by 24 bits each.
+        b.broken("command 703", ofFull(full(full(s, 704), 520), 704, 703).put(0, 48), 8);
+        b = new Bench();
+        s = b.lead(0).coded(false, 2992).row("000 11 1111 00 00").literals('x');
+        full(full(s, 704), 520);
+        // INSERT 1, COPY 4 by the last distance; then COPY 2 by the greatest distance, and no word has that LENGTH.
+        ofFull(ofFull(ofFull(s, 704, 10), 704, 128), 520, 519).put(-1, 24);
+        b.broken("distance sign 519", s, 10);
     }
 
     private static void latestPartWithCodes() {

@@ -16,6 +16,7 @@ final class PackTest {
         copies();
         copiesAtTheirEdges();
         ringSigns();
+        eachSignOfTheRing();
         leastSign();
         farSigns();
         cells();
@@ -24,11 +25,15 @@ final class PackTest {
         wordNumbers();
         longest();
         cheapest();
+        costs();
         codesOfNumbers();
         commandsStay();
         commandIsBad();
         noise();
+        mostCommands();
         backAndForth();
+        asThePlainWay();
+        codesAsThePlainWay();
         Bench.finish("PackTest");
     }
 
@@ -286,6 +291,25 @@ final class PackTest {
             "4 4 4 34", "1 4 4 " + (8 + 2), "1 9 1 " + (128 + 8 + 7));
     }
 
+    // THE RING "at first 16, 15, 11 and 4 (the last)", at each pack() anew: signs 1, 2, 3 and one of 9 .. 12 back.
+    private static void eachSignOfTheRing() {
+        int[] distances = {11, 15, 16};
+        Bench b = new Bench();
+        for (int turn = 0; turn < 6; turn++) {
+            int d = distances[turn % 3];
+            String base = "0123456789ABCDEF".substring(0, d);
+            String text = base + base.substring(0, 5) + "!" + base.substring(d - 4) + "0";
+            b.text(text).x.pack(1 + turn / 3);
+            Bench.due("distances", b.x.count(4) + ": " + b.x.command(0, 2) + " " + b.x.command(1, 2), "2: " + d + " 10");
+            b.x.pass();
+            Bench.due("open", b.x.open(), d + 11);
+            for (int sign = 0; sign < 64; sign++) {
+                Bench.due(d + ", sign " + sign, b.x.length(2, 0, sign), sign == turn % 3 + 1 || sign == 19 ? 1 : 0);
+            }
+            Bench.due("ring", b.ring(), "10 " + d + " 4 11");
+        }
+    }
+
     // "the least sign of 0 .. 3 that means it": THE RING is 4, 11, 4, 11 when 11 comes again.
     private static void leastSign() {
         Bench b = new Bench().text("0123456789A" + "01234" + "1234" + "9A012");
@@ -366,8 +390,10 @@ final class PackTest {
 
     // "make just the bytes there, 4 at least": what ends with the TAPE, and what would go beyond it.
     private static void wordsAtTheirEdges() {
-        String[] texts = {"word", "wor", "word,", "word, ", "word ", " word", " wor", "Word,", "WORD, ", "WoRD", "ord", "ord "};
-        String[] due = {"0 4 1", "3 0 0", "0 4 1", "0 4 19", "0 4 7", "0 4 13", "0 4 17", "0 4 2", "0 4 21", "4 0 0", "3 0 0", "0 4 10"};
+        String[] texts = {"word", "wor", "word,", "word, ", "word ", " word", " wor",
+            "Word,", "WORD, ", "WoRD", "ord", "ord ", " ord"};
+        String[] due = {"0 4 1", "3 0 0", "0 4 1", "0 4 19", "0 4 7", "0 4 13", "0 4 17",
+            "0 4 2", "0 4 21", "4 0 0", "3 0 0", "0 4 10", "0 4 16"};
         for (int i = 0; i < texts.length; i++) {
             for (int level = 1; level < 3; level++) {
                 Bench b = new Bench().words("word").text(texts[i]);
@@ -444,6 +470,21 @@ final class PackTest {
         chooses("a WORD of more", b.text("abcd1abcdef"), 1, "0 6 6 " + (128 + 4), "1 6 6 " + (128 + 8 + 4));
         chooses("from left to right", new Bench().text("abcdbcdefghiabcdefghi"), 1,
             "12 4 12 " + (256 + 2), "0 5 9 " + (128 + 3));
+    }
+
+    // "the way of least COST: a literal 9, a COPY, a WORD 24 each; of like ones at a place a COPY, then a WORD, .."
+    private static void costs() {
+        // A literal, a COPY and a WORD cost 57; a WORD of seven and four literals 60.
+        chooses("57 or 60", new Bench().words("aaaaaba", "babbab").text("aaaaababbab"), 2, "1 4 1 138", "0 6 6 132");
+        // A literal, a COPY and five literals cost 78; three WORDS and a literal 81.
+        chooses("78 or 81", new Bench().words("bbbba", "bbbbaaabb").text("b".repeat(13) + "aaabb"), 2, "1 12 1 201", "5 0 0 168");
+        // Four WORDS cost 96, and so do a COPY of 14 and eight literals: the COPY.
+        Bench b = new Bench().words("abcd", "efgh", "ijkl", "mnopqrstuv");
+        chooses("a COPY or four WORDS", b.text("abcdefghijklmn!abcdefghijklmnopqrstuv"), 2,
+            "0 4 1 130", "0 4 6 130", "0 4 11 130", "3 14 15 " + (192 + 24 + 2), "8 0 0 184");
+        // Four WORDS cost 96, and so do a literal, a COPY of 15 and seven literals: the WORDS.
+        chooses("four WORDS or a literal", b.text("!bcdefghijklmnop?abcdefghijklmnopqrstuv "), 2,
+            "4 4 6 162", "0 4 11 130", "5 4 18 170", "0 4 23 130", "0 4 28 130", "0 10 36 192");
     }
 
     private static void cheapest() {
@@ -542,6 +583,32 @@ final class PackTest {
         }
     }
 
+    // 2,000 bytes have 500 commands at most: WORDS (or COPIES) of four bytes, no two of which come twice together.
+    private static void mostCommands() {
+        String[] words = new String[32];
+        for (int i = 0; i < 32; i++) {
+            words[i] = "" + (char) (128 + i) + (char) (160 + i) + (char) (192 + i) + (char) (224 + i);
+        }
+        StringBuilder text = new StringBuilder();
+        for (int step = 1; step < 32; step += 2) {
+            for (int i = 0; i < 32; i++) {
+                text.append(words[i * step % 32]);
+            }
+        }
+        text.setLength(2000);
+        for (int level = 1; level < 3; level++) {
+            Bench b = new Bench().words(words).text(text.toString());
+            b.x.pack(level);
+            Bench.due("most commands", b.x.count(4), 500);
+            Bench.due("the last of them", b.x.command(499, 0) + " " + b.x.command(499, 1) + " " + b.x.command(500, 0), "0 4 -1");
+            b.x.pass();
+            Bench.due("open", b.x.open(), 2000);
+            Bench.due("commands", b.x.part(0, 9), 500);
+            Bench.due("copies, words", b.x.part(0, 10) + b.x.part(0, 11), 500);
+            Bench.due("last byte", b.x.out(1999), text.charAt(1999));
+        }
+    }
+
     private static String noiseOf(int size, int seed) {
         java.util.Random chance = new java.util.Random(seed);
         StringBuilder noise = new StringBuilder();
@@ -583,6 +650,69 @@ final class PackTest {
             Bench.due("run " + run + " by " + level, b.x.open(), text.length());
             Bench.due("run " + run + " by " + level + ", out", b.made(), text.toString());
         }
+    }
+
+    /** Texts by chance, packed bit for bit as by the plain way. */
+    private static void asThePlainWay() {
+        java.util.Random chance = new java.util.Random(20261116);
+        for (int run = 0; run < 1500; run++) {
+            String signs = new String[] {"ab", "abc", "ab ,", "abcdefgh", "aAbB, \u00ff\u0000"}[run % 5];
+            String[] words = new String[chance.nextInt(14)];
+            for (int i = 0; i < words.length; i++) {
+                words[i] = letters(chance, 4 + chance.nextInt(7), signs);
+            }
+            StringBuilder text = new StringBuilder();
+            int size = run % 100 == 0 ? 2000 : 1 + chance.nextInt(90);
+            while (text.length() < size) {
+                int kind = chance.nextInt(4);
+                if (kind == 0 && words.length > 0) {
+                    text.append(PlainPacker.changed(words[chance.nextInt(words.length)], chance.nextInt(24)));
+                } else if (kind == 1 && text.length() > 3) {
+                    int from = chance.nextInt(text.length() - 3);
+                    text.append(text.substring(from, Math.min(text.length(), from + 4 + chance.nextInt(20))));
+                } else {
+                    text.append(letters(chance, 1 + chance.nextInt(5), run % 3 == 0 ? noiseOf(30, run) : signs));
+                }
+            }
+            text.setLength(size);
+            like("run " + run, text.toString(), words, 1 + run % 2);
+        }
+    }
+
+    private static void like(String what, String text, String[] words, int level) {
+        Bench b = new Bench().words(words).text(text);
+        b.x.pack(level);
+        PlainPacker plain = new PlainPacker(text, words, level);
+        StringBuilder commands = new StringBuilder();
+        for (int i = 0; i < b.x.count(4); i++) {
+            commands.append(b.command(i)).append(" | ");
+        }
+        Bench.due(what + ", commands", commands.toString(), plain.commands());
+        Bench.due(what + ", OUT", b.made(), plain.stream(b.stream()).bytes());
+    }
+
+    /** Literals that come as often as chance says, so that LENGTHS of marks are above 5 at first in many a text. */
+    private static void codesAsThePlainWay() {
+        java.util.Random chance = new java.util.Random(1116);
+        for (int run = 0; run < 1500; run++) {
+            int many = 5 + chance.nextInt(30);
+            StringBuilder text = new StringBuilder();
+            for (int i = 0; i < many; i++) {
+                double steep = 3 + chance.nextInt(4);
+                text.append(("" + (char) chance.nextInt(256)).repeat(1 + (int) Math.pow(2, chance.nextDouble() * steep)));
+            }
+            text.setLength(Math.min(text.length(), 2000));
+            like("codes " + run, mixed(text.toString()), new String[0], 1);
+        }
+        // No mark of these comes less often than twice, and their LENGTHS are above 5: all are halved.
+        int[] signs = {1, 40, 47, 50, 54, 56, 70, 79, 81, 84, 85, 105, 119, 120, 123, 125, 136, 146, 153, 155, 165, 167,
+            180, 190, 198, 202, 205, 220, 223, 225, 236, 250};
+        int[] often = {16, 5, 5, 5, 12, 5, 3, 8, 2, 14, 20, 2, 4, 43, 3, 2, 2, 42, 6, 2, 4, 2, 31, 7, 15, 4, 5, 2, 6, 2, 3, 5};
+        StringBuilder text = new StringBuilder();
+        for (int i = 0; i < signs.length; i++) {
+            text.append(("" + (char) signs[i]).repeat(often[i]));
+        }
+        like("all marks twice at least", mixed(text.toString()), new String[0], 1);
     }
 
     private static String letters(java.util.Random chance, int many, String signs) {
