@@ -5,6 +5,8 @@ final class CodesTest {
         distanceContexts();
         literalKinds();
         commandAndDistanceKinds();
+        distancesThatAreNotRead();
+        distanceContextsOfKinds();
         countsOfKinds();
         countsByTheirBits();
         kindsAnew();
@@ -161,6 +163,41 @@ final class CodesTest {
         Bench.due("length(1, 2, 0)", b.x.length(1, 2, 0), BrotliWords.BAD);
         for (int i = 0; i < 8; i++) {
             Bench.due("map(1, " + i + ")", b.x.map(1, i), i / 4);
+        }
+    }
+
+    // "in cells 0 and 1 sign 0, and nothing is read": so it takes none of the COUNT of distances.
+    private static void distancesThatAreNotRead() {
+        Bench b = new Bench();
+        Bench.Stream s = b.stream().raw("abcdefghij").coded(true, 12).row("0 0");
+        // Two KINDS of distances, for one each time; KIND 0 has 1 back, KIND 1 has 3 back.
+        s.row("1 000").told(2, 3).told(5, 0).put(0, 2);
+        s.row("00 0000 00 0").row("1 000  0").told(1, 0, 1).row("0000 1111 0");
+        // COPY 2, six times: by cell 0 but for the third and the fifth, which are of KINDS 0 and 1.
+        s.literals('x').commands(0, 128).distances(16).distances(17);
+        s.row("0 0").row("1 0").row("0").row("1 00 0").row("0");
+        Bench.due("open", b.open(s), 22);
+        Bench.due("out", b.made(), "abcdefghijghijjjjjjjjj");
+        Bench.due("ring", b.ring(), "3 1 4 11");
+        Bench.due("part", b.part(1), "3 12 1 1 2 1 2 0 0 6 6 0");
+    }
+
+    // "A distance's TREE: by the MAP at 4 times KIND and COPY less 2 (3 at most)"
+    private static void distanceContextsOfKinds() {
+        for (int copy = 2; copy <= 9; copy++) {
+            Bench b = new Bench();
+            Bench.Stream s = b.stream().raw("abcdefghijklmnopqrst").coded(true, 2 * copy).row("0 0");
+            s.row("1 000").told(2, 3).told(5, 0).put(0, 2);
+            // Eight TREES; the CODE of the MAP has three bits for each, and the MAP is 0 .. 7.
+            s.row("00 1111 00 0  1 010 11  0").row("00  00 00 1110" + "00".repeat(15)).row("000 001 010 011 100 101 110 111  0");
+            s.literals('x').commands(126 + copy);
+            for (int tree = 0; tree < 8; tree++) {
+                s.told(7, 16 + tree);
+            }
+            Bench.due("COPY " + copy, b.open(s.row("00")), 20 + 2 * copy);
+            int context = Math.min(copy - 2, 3);
+            Bench.due("COPY " + copy + ", ring", b.ring(), (5 + context) + " " + (1 + context) + " 4 11");
+            Bench.due("COPY " + copy + ", map", b.x.map(1, 0) + " " + b.x.map(1, 7) + " " + b.x.map(1, 8), "0 7 -1");
         }
     }
 
